@@ -928,6 +928,8 @@ public final class AmplifierDesk {
         /**
          * Makes the left half a multiple of the unit matrix and answers the factor, 0 if that can't be. All
          * divisions are without a rest, as all entries are determinants of parts of the first rows (Bareiss).
+         * Such a determinant is at most the product of its rows' sums of sizes; those of 6 nodes add up to at most
+         * 4 * 48, so it is at most 32 to the power of 6, and a product of two is far from the end of a long.
          */
         private long eliminate() {
             long pivotBefore = 1;

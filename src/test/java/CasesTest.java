@@ -61,6 +61,11 @@ public final class CasesTest {
         AmplifierDesk u = Check.desk("r124;s35");
         Check.equal("not settled", Check.current(u, 0), "0/0");
         Check.badArgument("current(0, 2), not settled", u, () -> u.current(0, 2));
+        AmplifierDesk w = Check.desk(Circuits.SCHMITT);
+        w.inCase(2, 2, 0);
+        Check.equal("in the present case, whichever was asked for before", Check.current(w, 1), "-75/1");
+        w.inCase(2, 2, 0);
+        Check.equal("its sign, too", w.amplifier(0, 2), 1);
         AmplifierDesk v = Check.desk("s17;r014;r104");
         Check.equal("from the ground", Check.current(v, 1), "-28/1");
         Check.equal("to the ground", Check.current(v, 2), "28/1");
@@ -106,6 +111,9 @@ public final class CasesTest {
         for (int number = 0; number < due.length; number++) {
             verdict(x, number, due[number][0], due[number][1]);
         }
+        for (int number = due.length - 1; number >= 0; number--) {
+            Check.equal("concerned(" + number + ") alone", x.concerned(number), due[number][1]);
+        }
         Check.badIndex("why(-1)", x, () -> x.why(-1));
         Check.badIndex("why(9)", x, () -> x.why(9));
         Check.badIndex("concerned(-1)", x, () -> x.concerned(-1));
@@ -136,6 +144,17 @@ public final class CasesTest {
         x.setValue(0, -151);
         verdict(x, 0, 2, 0);
         verdict(x, 1, 0, -1);
+        AmplifierDesk z = Check.desk("s1-150;r122;r232;o023");
+        verdict(z, 0, 0, -1);
+        z.setValue(0, -151);
+        verdict(z, 0, 2, 0);
+        z.setValue(1, 1);
+        Check.equal("a gain of a half", Check.inCase(z, 0, 3), "151/2");
+        verdict(z, 0, 0, -1);
+        z.setRail(75);
+        verdict(z, 0, 2, 0);
+        z.setRail(76);
+        verdict(z, 0, 0, -1);
         AmplifierDesk y = Check.desk(Circuits.SCHMITT);
         verdict(y, 0, 5, 0);
         verdict(y, 1, 0, -1);
@@ -160,6 +179,9 @@ public final class CasesTest {
         AmplifierDesk u = Check.desk("s1-30;o123;r201;r231");
         Check.equal("a follower with a divider", u.why(0), 0);
         Check.equal("doubles", Check.voltage(u, 3), "-60/1");
+        AmplifierDesk f = Check.desk("s1-30;o123;r231");
+        Check.equal("a follower", f.why(0), 0);
+        Check.equal("follows", Check.voltage(f, 3), "-30/1");
         AmplifierDesk v = Check.desk("s130;o213;r201;r231");
         verdict(v, 0, 5, 0);
         // The way back of the first leads through the inverter, so it is negative with exchanged inputs. The

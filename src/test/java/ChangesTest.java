@@ -12,6 +12,7 @@ public final class ChangesTest {
         promise05SetRail();
         promise06Drop();
         promise06DropKeepsTheOtherStates();
+        promise06DropOfTheMiddleAmplifier();
         promise07Sweep();
         promise07SweepRefuses();
         settlingPrefersFewChangesThenLowNumbers();
@@ -104,7 +105,8 @@ public final class ChangesTest {
     private static void promise03LoadRefusesPartsThatCannotBe() {
         String[] texts = {"r111", "r001", "s05", "s0-0", "o112", "o120", "o121", "o122", "o001", "r121;r331;r121",
             "s15;s16;r111", "o123;o456;o124;o125;o011", "r111;s15;s15",
-            "s15;s16;s17;s18;s19;s15;s16;s17;s18;s19;s15;s16;s17;s05"};
+            "s15;s16;s17;s18;s19;s15;s16;s17;s18;s19;s15;s16;s17;s05",
+            "s15;s16;s17;s18;s19;s15;s16;s17;s18;s19;s15;s16;s17;s18;s05"};
         for (String text : texts) {
             AmplifierDesk x = Check.desk("r011");
             Check.type(x, text);
@@ -128,6 +130,7 @@ public final class ChangesTest {
         refuses("o231", "s15");
         refuses("o231", "o241");
         refuses("r011", "s15;s16");
+        refuses("r011", "s15;s26;s17");
         refuses("r011", "s15;o231");
         refuses("r011", "o231;s15");
         refuses("r011", "o231;o321");
@@ -244,6 +247,26 @@ public final class ChangesTest {
         Check.equal("and stays low as number 0", y.count(3), 2);
     }
 
+    private static void promise06DropOfTheMiddleAmplifier() {
+        AmplifierDesk x = Check.desk("s1200;o143;o105;o034");
+        Check.equal("the latch is high and low, and high between them", x.count(3), 1 + 3 + 2 * 9);
+        x.setValue(0, 0);
+        x.setValue(0, 1);
+        Check.equal("it stays", x.count(3), 1 + 3 + 2 * 9);
+        x.drop(2);
+        Check.equal("the latch is as before", x.count(3), 1 + 2 * 3);
+        AmplifierDesk y = Check.desk("s15;o143;o105;o034");
+        y.setValue(0, 1);
+        Check.equal("the other way round", y.count(3), 2 + 3 + 9);
+        y.drop(2);
+        Check.equal("the latch is as it was", y.count(3), 2 + 3);
+        AmplifierDesk z = Check.desk("s1-200;o104;o105;r121;r231;o203");
+        z.setValue(0, 1);
+        Check.equal("high, high, and a trigger that stays low", z.count(3), 1 + 3 + 2 * 9);
+        z.drop(2);
+        Check.equal("the trigger is still low", z.count(3), 1 + 2 * 3);
+    }
+
     private static void promise07Sweep() {
         AmplifierDesk x = Check.desk(Circuits.SCHMITT);
         Check.equal("it starts high", x.count(3), 1);
@@ -296,6 +319,18 @@ public final class ChangesTest {
         y.load();
         Check.equal("again two cases hold", y.count(5), 2);
         Check.equal("the higher number has fewer changes", y.count(3), 1 + 2 * 3 + 9);
+
+        // The first amplifier is a trigger; from (high, high), where the second one must change, it stays high.
+        AmplifierDesk z = Check.desk("r121;r231;o203;s120;s45;o405");
+        z.setValue(3, 0);
+        Check.equal("both are high", z.count(3), 1 + 3);
+        z.setValue(4, -5);
+        Check.equal("the trigger stays high", z.count(3), 1 + 2 * 3);
+        z.setValue(3, -200);
+        z.setValue(3, 0);
+        Check.equal("the trigger is low", z.count(3), 2 + 2 * 3);
+        z.setValue(4, 5);
+        Check.equal("the trigger stays low, though a lower number holds", z.count(3), 2 + 3);
     }
 
     private static void unsettledKeepsTheCase() {
