@@ -78,6 +78,17 @@ final class Check {
         }
     }
 
+    /** What load() returns for this text alone in the buffer, or the plain name of what it throws. */
+    static String load(AmplifierDesk desk, String text) {
+        desk.clearInput();
+        type(desk, text);
+        try {
+            return "" + desk.load();
+        } catch (RuntimeException e) {
+            return e.getClass().getSimpleName();
+        }
+    }
+
     static AmplifierDesk desk(String text) {
         AmplifierDesk desk = new AmplifierDesk();
         type(desk, text);

@@ -8,6 +8,10 @@ final class Circuits {
     static final String INVERTER_AND_SCHMITT = "s110;r121;r231;o023;r341;r451;o405";
     /** Two amplifiers that each make the other the opposite, a memory; a source at the first one's plus input. */
     static final String LATCH = "s10;o143;o034";
+    /** Without a way back; where both sources are equal no case holds, and the desk is not settled. */
+    static final String GAP = "s110;s25;o123";
+    /** 12 parts, 3 amplifiers and all nodes: the inverter, the trigger, and an amplifier that compares them. */
+    static final String FULL = "s110;r121;r231;o023;r341;r451;o405;o156;r601;r614;r302;r502";
 
     private Circuits() {
     }

@@ -123,13 +123,12 @@ public final class InputTest {
     }
 
     private static void next(String text, String allowed) {
-        AmplifierDesk x = new AmplifierDesk();
         for (int code = 32; code <= 126; code++) {
+            AmplifierDesk x = new AmplifierDesk();
             Check.type(x, text);
             x.append(code);
             int due = text.length() + (allowed.indexOf(code) >= 0 ? 1 : 0);
             Check.equal("firstError of '" + text + (char) code + "'", x.firstError(), due);
-            x.clearInput();
         }
     }
 }

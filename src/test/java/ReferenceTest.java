@@ -1,17 +1,13 @@
 /** Runs the same calls on the desk and on the reference; every answer and every exception must be the same. */
 public final class ReferenceTest {
-    private static final int RUNS = 250;
-    private static final int CALLS = 120;
-    private static final String[] CALL_NAMES = {"begin", "load", "setValue", "setRail", "drop", "sweep", "undo", "keep",
-        "back", "append", "clearInput", "firstError", "voltage", "current", "amplifier", "why", "concerned", "inCase",
-        "trip", "ifValue", "part", "count", "meanVoltage", "digest"};
-    /** How often each of them is called, in the same order. */
+    private static final int RUNS = 300;
+    /** A desk is used for 512 calls; the last round may take some 70. */
+    private static final int CALLS = 430;
+    /** How often each of Calls.NAMES is called, in the same order. */
     private static final int[] OFTEN = {1, 3, 14, 6, 5, 7, 7, 3, 4, 6, 2, 4, 10, 10, 8, 4, 4, 10, 7, 10, 4, 4, 3, 6};
 
-    private final AmplifierDesk desk = new AmplifierDesk();
-    private final ReferenceDesk reference = new ReferenceDesk();
+    private final Twins twins = new Twins();
     private final Chance chance;
-    private final StringBuilder told = new StringBuilder();
     private int a;
     private int b;
     private int c;
@@ -30,7 +26,7 @@ public final class ReferenceTest {
     }
 
     private void run() {
-        for (int i = 0; i < CALLS; i++) {
+        while (twins.calls() < CALLS) {
             if (chance.below(5) == 0) {
                 loadSome();
             }
@@ -43,11 +39,8 @@ public final class ReferenceTest {
         if (chance.below(3) != 0) {
             compare("clearInput");
         }
-        String text = chance.below(4) == 0 ? chance.wild() : chance.text(desk.count(0));
-        for (int i = 0; i < text.length(); i++) {
-            a = text.charAt(i);
-            compare("append");
-        }
+        String text = chance.below(4) == 0 ? chance.wild() : chance.text(twins.count(0));
+        twins.type(text);
         compare("firstError");
         compare("load");
     }
@@ -61,14 +54,15 @@ public final class ReferenceTest {
         for (int drawn = chance.below(all); drawn >= OFTEN[number]; number++) {
             drawn -= OFTEN[number];
         }
-        String name = CALL_NAMES[number];
+        String name = Calls.NAMES[number];
         draw(name);
         compare(name);
     }
 
     private void draw(String name) {
-        int parts = desk.count(0);
-        int cases = desk.count(1) == 0 ? 1 : desk.count(1) == 1 ? 3 : desk.count(1) == 2 ? 9 : 27;
+        int parts = twins.count(0);
+        int amplifiers = twins.count(1);
+        int cases = new int[] {1, 3, 9, 27}[amplifiers];
         a = chance.near(parts);
         b = chance.near(2);
         c = chance.near(2);
@@ -92,7 +86,7 @@ public final class ReferenceTest {
                 a = chance.near(7);
                 break;
             case "amplifier":
-                a = chance.near(desk.count(1));
+                a = chance.near(amplifiers);
                 b = chance.near(3);
                 break;
             case "why":
@@ -115,81 +109,6 @@ public final class ReferenceTest {
     }
 
     private void compare(String name) {
-        told.append(name).append(' ').append(a).append(' ').append(b).append(' ').append(c).append('\n');
-        String got;
-        try {
-            got = "" + ofDesk(name);
-        } catch (RuntimeException e) {
-            got = e.getClass().getName();
-        }
-        String due;
-        try {
-            due = "" + ofReference(name);
-        } catch (RuntimeException e) {
-            due = e.getClass().getName();
-        }
-        Check.equal(name, got, due);
-        if (!got.equals(due)) {
-            System.out.println("after these calls with their arguments:\n" + told);
-            Check.end();
-        }
-    }
-
-    private long ofDesk(String name) {
-        switch (name) {
-            case "begin": return desk.begin();
-            case "load": return desk.load();
-            case "setValue": return desk.setValue(a, b);
-            case "setRail": return desk.setRail(a);
-            case "drop": return desk.drop(a);
-            case "sweep": return desk.sweep(a, b);
-            case "undo": return desk.undo();
-            case "keep": return desk.keep(a);
-            case "back": return desk.back(a);
-            case "append": return desk.append(a);
-            case "clearInput": return desk.clearInput();
-            case "firstError": return desk.firstError();
-            case "voltage": return desk.voltage(a, b);
-            case "current": return desk.current(a, b);
-            case "amplifier": return desk.amplifier(a, b);
-            case "why": return desk.why(a);
-            case "concerned": return desk.concerned(a);
-            case "inCase": return desk.inCase(a, b, c);
-            case "trip": return desk.trip(a, (b & 1) != 0);
-            case "ifValue": return desk.ifValue(a, b);
-            case "part": return desk.part(a, b);
-            case "count": return desk.count(a);
-            case "meanVoltage": return Double.doubleToRawLongBits(desk.meanVoltage());
-            default: return desk.digest();
-        }
-    }
-
-    private long ofReference(String name) {
-        switch (name) {
-            case "begin": return reference.begin();
-            case "load": return reference.load();
-            case "setValue": return reference.setValue(a, b);
-            case "setRail": return reference.setRail(a);
-            case "drop": return reference.drop(a);
-            case "sweep": return reference.sweep(a, b);
-            case "undo": return reference.undo();
-            case "keep": return reference.keep(a);
-            case "back": return reference.back(a);
-            case "append": return reference.append(a);
-            case "clearInput": return reference.clearInput();
-            case "firstError": return reference.firstError();
-            case "voltage": return reference.voltage(a, b);
-            case "current": return reference.current(a, b);
-            case "amplifier": return reference.amplifier(a, b);
-            case "why": return reference.why(a);
-            case "concerned": return reference.concerned(a);
-            case "inCase": return reference.inCase(a, b, c);
-            case "trip": return reference.trip(a, (b & 1) != 0);
-            case "ifValue": return reference.ifValue(a, b);
-            case "part": return reference.part(a, b);
-            case "count": return reference.count(a);
-            case "meanVoltage": return Double.doubleToRawLongBits(reference.meanVoltage());
-            default: return reference.digest();
-        }
+        twins.same(name, a, b, c);
     }
 }
