@@ -68,6 +68,11 @@ public final class FaceTest {
                 Check.equal("private " + method.getName(), names.contains(method.getName()) ? 1 : 0, 0);
             }
         }
+        for (Class<?> inner : face.getDeclaredClasses()) {
+            for (Method method : inner.getDeclaredMethods()) {
+                Check.equal(inner + ", " + method.getName(), names.contains(method.getName()) ? 1 : 0, 0);
+            }
+        }
         return methods;
     }
 
